@@ -280,8 +280,7 @@ public final class MeadowSigns {
     // ---- plans ----
 
     public int harm() {
-        planner.begin(told, state);
-        return planner.harms(planner.look) ? 1 : 0;
+        return takeNow() && reader.takesAway() ? 1 : 0;
     }
 
     public int turn(int thing, int v) {
@@ -698,6 +697,7 @@ public final class MeadowSigns {
                 kind = wordLength > WORD_LETTERS ? NO_TOKEN : kindOfWord();
             } else if (isDigitAt(next)) {
                 readNumber();
+                kind = next - place > NUMBER_DIGITS || isLetterAt(next) ? NO_TOKEN : NUMBER;
             } else {
                 readMark();
             }
@@ -713,7 +713,7 @@ public final class MeadowSigns {
 
         private void readWord() {
             word = 0;
-            while (next < length && isLetterAt(next)) {
+            while (next < length && bytes[next] >= 'a' && bytes[next] <= 'z') {
                 word = word * 32 + (bytes[next] - 'a' + 1);
                 next++;
             }
@@ -739,12 +739,10 @@ public final class MeadowSigns {
 
         private void readNumber() {
             number = 0;
-            while (next < length && isDigitAt(next)) {
+            while (next < length && bytes[next] >= '0' && bytes[next] <= '9') {
                 number = number * 10 + (bytes[next] - '0');
                 next++;
             }
-            boolean tooLong = next - place > NUMBER_DIGITS;
-            kind = tooLong || isLetterAt(next) ? NO_TOKEN : NUMBER;
         }
 
         private void readMark() {
@@ -1024,22 +1022,22 @@ public final class MeadowSigns {
             return parseLevel(formula, LEVEL_E, 0) && expect(';');
         }
 
-        /** A part of a formula that holds together as the level tells, and is within so many others. */
-        private boolean parseLevel(Formula formula, int level, int within) {
+        /** A part of a formula that holds together as the level tells, and is within depth others. */
+        private boolean parseLevel(Formula formula, int level, int depth) {
             if (level >= LEVEL_UNIT) {
-                return parseUnit(formula, within);
+                return parseUnit(formula, depth);
             }
             if (level == LEVEL_ONE && tape.kind == NOT) {
-                return parseNot(formula, within);
+                return parseNot(formula, depth);
             }
-            if (!parseLevel(formula, level + 1, within)) {
+            if (!parseLevel(formula, level + 1, depth)) {
                 return false;
             }
             int most = level == LEVEL_ONE ? 1 : MAX_UNITS_OF_ONE;
             for (int i = 0; i < most && levelOf(tape.kind) == level; i++) {
                 int kind = tape.kind;
                 tape.advance();
-                if (!parseLevel(formula, level + 1, within)) {
+                if (!parseLevel(formula, level + 1, depth)) {
                     return false;
                 }
                 formula.addKind(kind);
@@ -1069,22 +1067,22 @@ public final class MeadowSigns {
             }
         }
 
-        private boolean parseNot(Formula formula, int within) {
-            if (within > MAX_WITHIN) {
+        private boolean parseNot(Formula formula, int depth) {
+            if (depth > MAX_WITHIN) {
                 return refuse(FAULT_STAND);
             }
             tape.advance();
-            if (!parseLevel(formula, LEVEL_ONE, within + 1)) {
+            if (!parseLevel(formula, LEVEL_ONE, depth + 1)) {
                 return false;
             }
             formula.addKind(NOT);
             return true;
         }
 
-        private boolean parseUnit(Formula formula, int within) {
+        private boolean parseUnit(Formula formula, int depth) {
             int kind = tape.kind;
             boolean input = kind >= LONG && kind <= DRY;
-            boolean inner = kind == '(' && within <= MAX_WITHIN;
+            boolean inner = kind == '(' && depth <= MAX_WITHIN;
             boolean room = unitsOfOne < MAX_UNITS_OF_ONE && target.units < MAX_UNITS;
             if (!room || !(input || inner || kind == NUMBER)) {
                 return refuse(FAULT_STAND);
@@ -1097,7 +1095,7 @@ public final class MeadowSigns {
                 formula.addNumber(tape.number);
             }
             tape.advance();
-            return !inner || parseLevel(formula, LEVEL_E, within + 1) && expect(')');
+            return !inner || parseLevel(formula, LEVEL_E, depth + 1) && expect(')');
         }
     }
 
@@ -1490,7 +1488,7 @@ public final class MeadowSigns {
             reader.begin(rules, now, Reader.ANY_ROW);
         }
 
-        boolean harms(int row) {
+        private boolean harms(int row) {
             return reader.read(row) > 0 && reader.follow() && reader.takesAway();
         }
 
