@@ -97,12 +97,12 @@ public final class MeadowSigns {
 
     private Told told = new Told();
     private Told spare = new Told();
-    private final Parser parser = new Parser();
+    private final Parser parser = new Parser(spare);
     private final State state = new State();
     private final State ahead = new State();
     private final History history = new History();
-    private final Reader reader = new Reader();
-    private final Planner planner = new Planner();
+    private final Reader reader = new Reader(told);
+    private final Planner planner = new Planner(told);
     private final Hearsay hearsay = new Hearsay();
 
     public MeadowSigns() {
@@ -779,13 +779,17 @@ public final class MeadowSigns {
     /** Reads a text into what it tells; stops at the first fault. */
     private static final class Parser {
         private final Tape tape = new Tape();
-        private Told target = null;
+        private Told target;
         private int lines = 0;
         private boolean drawTold = false;
         private int unitsOfOne = 0;
         private int value = 0;
         private int fault = 0;
         private int place = NONE;
+
+        Parser(Told into) {
+            target = into;
+        }
 
         boolean parse(Told into) {
             target = into;
@@ -1269,7 +1273,7 @@ public final class MeadowSigns {
     private static final class Reader {
         private static final int ANY_ROW = -1;
         private static final int WIDTH = MAX_SIGNS + 1;
-        private Told told = null;
+        private Told told;
         private int look = 0;
         private boolean fresh = true;
         private final int[] weights = new int[MAX_SIGNS * MAX_CELLS];
@@ -1286,6 +1290,10 @@ public final class MeadowSigns {
         private int taken = 0;
         private final int[] cells = new int[MAX_CELLS];
         private final int[] signs = new int[MAX_CELLS];
+
+        Reader(Told rules) {
+            told = rules;
+        }
 
         /** Makes ready to read this row, or, if it is ANY_ROW, rows that look as they like. */
         void begin(Told rules, State now, int row) {
@@ -1315,9 +1323,6 @@ public final class MeadowSigns {
 
         /** Answers how many readings a row has that looks so. */
         int read(int row) {
-            if (told == null) {
-                return 0;
-            }
             int unlike = fresh ? ~0 : look ^ row;
             fresh = false;
             look = row;
@@ -1450,8 +1455,8 @@ public final class MeadowSigns {
 
     /** Looks for what to mow; keeps the numbers that lie there. */
     private static final class Planner {
-        private final Reader reader = new Reader();
-        private Told told = null;
+        private final Reader reader;
+        private Told told;
         private int look = 0;
         private int open = 0;
         private final int[] numbers = new int[MAX_CELLS];
@@ -1465,6 +1470,11 @@ public final class MeadowSigns {
         private final int[] ways = new int[1 << MAX_ORDERED];
         private final int[] sentence = new int[MAX_WRITTEN];
         private int sentenceLength = 0;
+
+        Planner(Told rules) {
+            told = rules;
+            reader = new Reader(rules);
+        }
 
         void clear() {
             lying = 0;

@@ -20,23 +20,11 @@ public final class FaultTest {
     }
 
     private static void fault(int want, String marked) {
-        int place = marked.indexOf('^');
-        String text = marked.substring(0, place) + marked.substring(place + 1);
-        MeadowSigns x = new MeadowSigns();
-        Calls.feed(x, text);
-        Calls.due("meadow() of " + marked, x.meadow(), -1);
-        Calls.due("fault(0) of " + marked, x.fault(0), want);
-        Calls.due("fault(1) of " + marked, x.fault(1), place);
-        Calls.due("fault(2) of " + marked, x.fault(2), -1);
-        Calls.due("fault(-1) of " + marked, x.fault(-1), -1);
+        Calls.fault(want, marked);
     }
 
     private static void fine(String text, int signs) {
-        MeadowSigns x = new MeadowSigns();
-        Calls.feed(x, text);
-        Calls.due("meadow() of " + text, x.meadow(), signs);
-        Calls.due("fault(0) of " + text, x.fault(0), 0);
-        Calls.due("fault(1) of " + text, x.fault(1), -1);
+        Calls.fine(text, signs);
     }
 
     private static String times(String text, int n) {

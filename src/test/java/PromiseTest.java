@@ -46,9 +46,7 @@ public final class PromiseTest {
     }
 
     private static void mow(MeadowSigns x, int... cells) {
-        for (int cell : cells) {
-            x.mow(cell);
-        }
+        Calls.mow(x, cells);
     }
 
     private static void newObject() {
