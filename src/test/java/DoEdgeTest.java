@@ -620,6 +620,16 @@ public final class DoEdgeTest {
     }
 
     private static void glyph() {
+        by("its SHAPE, as bits (bit 0: the first CELL)");
+        MeadowSigns bits = told("thing t at 0;thing u at 0;sign a mmom does u - 9;sign b moommm does t 9;");
+        due("glyph(0, 0)", bits.glyph(0, 0), 1 + 2 + 8);
+        due("glyph(0, 1)", bits.glyph(0, 1), 4);
+        due("glyph(0, 2)", bits.glyph(0, 2), 1);
+        due("glyph(0, 3)", bits.glyph(0, 3), -9);
+        due("glyph(1, 0)", bits.glyph(1, 0), 1 + 8 + 16 + 32);
+        due("glyph(1, 1)", bits.glyph(1, 1), 6);
+        due("glyph(1, 2)", bits.glyph(1, 2), 0);
+        due("glyph(1, 3)", bits.glyph(1, 3), 9);
         by("4: where it stands in what is TAKEN, as bits of first CELLS; -10000 if there is none such, or for another what.");
         MeadowSigns x = told("size 20;thing t at 0;sign a moom does t 1;sign b m does t 1;weigh long;");
         due("glyph(0, 0)", x.glyph(0, 0), 9);
